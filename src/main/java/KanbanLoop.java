@@ -24,7 +24,6 @@ public final class KanbanLoop {
     private int unitsOwed;
     private int shortCount;
 
-    /** Makes a line without stages, with the demand 0 and the rule LAST. */
     public KanbanLoop() {
         last = null;
         stageCount = 0;
@@ -38,7 +37,6 @@ public final class KanbanLoop {
 
     // ---- the line
 
-    /** Adds a stage behind all others and returns its number. */
     public int stage(int cards, int size, int time, int mark, boolean full)
             throws IllegalArgumentException, IllegalStateException {
         checkRange(cards, 1, MOST_CARDS);
@@ -53,7 +51,6 @@ public final class KanbanLoop {
         return last.number;
     }
 
-    /** Sets how long the way to an inbox is, for containers that set out later; returns how long it was. */
     public int way(int stage, int steps) throws IndexOutOfBoundsException, IllegalArgumentException {
         Stage fed = findFed(stage);
         checkRange(steps, 0, MOST_WAY);
@@ -62,7 +59,6 @@ public final class KanbanLoop {
         return before;
     }
 
-    /** Sets the mark of a stage and returns the mark before. */
     public int mark(int stage, int mark) throws IndexOutOfBoundsException, IllegalArgumentException {
         Stage found = find(stage);
         checkRange(mark, 1, MOST_MARK);
@@ -71,14 +67,12 @@ public final class KanbanLoop {
         return before;
     }
 
-    /** Sets the rule, true for FIRST; returns whether it was FIRST. */
     public boolean rule(boolean first) {
         boolean before = ruleIsFirst;
         ruleIsFirst = first;
         return before;
     }
 
-    /** Sets the demand and returns the demand before. */
     public int demand(int units) throws IllegalArgumentException {
         checkRange(units, 0, MOST_DEMAND);
         int before = wantedPerStep;
@@ -86,7 +80,6 @@ public final class KanbanLoop {
         return before;
     }
 
-    /** Stops a stage, or lets it go on; returns whether it is stopped then. */
     public boolean stop(int stage) throws IndexOutOfBoundsException {
         Stage found = find(stage);
         found.stopped = !found.stopped;
@@ -95,7 +88,6 @@ public final class KanbanLoop {
 
     // ---- cards
 
-    /** Issues a production card, onto the board; returns how many the stage has then. */
     public int issue(int stage) throws IndexOutOfBoundsException, IllegalStateException {
         Stage found = find(stage);
         if (found.cards >= MOST_CARDS) {
@@ -106,7 +98,6 @@ public final class KanbanLoop {
         return found.cards;
     }
 
-    /** Retires a production card from the board; returns how many the stage has then. */
     public int retire(int stage) throws IndexOutOfBoundsException, IllegalStateException {
         Stage found = find(stage);
         if (found.board < 1 || found.cards <= 1) {
@@ -118,7 +109,6 @@ public final class KanbanLoop {
         return found.cards;
     }
 
-    /** Issues a conveyance card, which waits; returns how many the stage has then. */
     public int issueConveyance(int stage) throws IndexOutOfBoundsException, IllegalStateException {
         Stage fed = findFed(stage);
         if (fed.conveyance >= MOST_CONVEYANCE) {
@@ -129,7 +119,6 @@ public final class KanbanLoop {
         return fed.conveyance;
     }
 
-    /** Retires a conveyance card that waits; returns how many the stage has then. */
     public int retireConveyance(int stage) throws IndexOutOfBoundsException, IllegalStateException {
         Stage fed = findFed(stage);
         if (fed.waiting < 1 || fed.conveyance <= 1) {
@@ -140,7 +129,6 @@ public final class KanbanLoop {
         return fed.conveyance;
     }
 
-    /** Returns how many production cards a stage would need. */
     public int needed(int stage, int safety) throws IndexOutOfBoundsException, IllegalArgumentException {
         Stage found = find(stage);
         checkRange(safety, 0, MOST_SAFETY);
@@ -156,7 +144,6 @@ public final class KanbanLoop {
 
     // ---- steps
 
-    /** Lets steps pass and returns how many units customers took in them. */
     public int step(int steps) throws IllegalArgumentException, IllegalStateException {
         checkRange(steps, 1, MOST_STEPS);
         if (last == null) {
@@ -169,86 +156,70 @@ public final class KanbanLoop {
         return unitsTaken - before;
     }
 
-    /** Returns the time. */
     public int time() {
         return now;
     }
 
     // ---- what is
 
-    /** Returns the number of stages. */
     public int stages() {
         return stageCount;
     }
 
-    /** Returns how many production cards are on the board of a stage. */
     public int board(int stage) throws IndexOutOfBoundsException {
         return find(stage).board;
     }
 
-    /** Returns how many production cards are attached in the market of a stage. */
     public int attached(int stage) throws IndexOutOfBoundsException {
         return find(stage).market.cardsOn();
     }
 
-    /** Returns how many steps a stage has left to do on its container, 0 if it works on none. */
     public int left(int stage) throws IndexOutOfBoundsException {
         return find(stage).left;
     }
 
-    /** Returns how many containers the run of a stage still has to begin, 0 if no run is on. */
     public int run(int stage) throws IndexOutOfBoundsException {
         return find(stage).run;
     }
 
-    /** Returns how many units are in the market of a stage. */
     public int market(int stage) throws IndexOutOfBoundsException {
         return find(stage).market.allUnits();
     }
 
-    /** Returns how many units are in the inbox of a stage. */
     public int inbox(int stage) throws IndexOutOfBoundsException {
         return find(stage).inbox.allUnits();
     }
 
-    /** Returns how many conveyance cards of a stage wait. */
     public int waiting(int stage) throws IndexOutOfBoundsException {
         return find(stage).waiting;
     }
 
-    /** Returns how many containers travel to the inbox of a stage. */
     public int travelling(int stage) throws IndexOutOfBoundsException {
         return find(stage).road.count;
     }
 
-    /** Returns how many units the container has that came first in a market, 0 if there is none. */
     public int firstUnits(int stage) throws IndexOutOfBoundsException {
         return find(stage).market.headUnits();
     }
 
     // ---- what was
 
-    /** Returns how many units customers took so far. */
     public int taken() {
         return unitsTaken;
     }
 
-    /** Returns the backlog. */
     public int backlog() {
         return unitsOwed;
     }
 
-    /** Returns how many steps were short. */
     public int shortSteps() {
         return shortCount;
     }
 
-    /** Returns how many steps were starved for a stage. */
     public int starved(int stage) throws IndexOutOfBoundsException {
         return find(stage).starvedSteps;
     }
 
-    /** Returns how many units there are in the line, counted where they are. */
     public int stock() {
         int units = 0;
         for (Stage at = last; at != null; at = at.ahead) {
@@ -257,7 +228,6 @@ public final class KanbanLoop {
         return units;
     }
 
-    /** Returns how many units there are in the line, counted by what went in and out. */
     public int stockByFlow() {
         int units = -unitsTaken;
         for (Stage at = last; at != null; at = at.ahead) {
@@ -283,7 +253,7 @@ public final class KanbanLoop {
         return at;
     }
 
-    /** Finds a stage that has an inbox: any one but the first. */
+    /** The first stage makes units of nothing, so it has neither an inbox nor a way to one. */
     private Stage findFed(int stage) {
         Stage found = find(stage);
         if (found.ahead == null) {
@@ -292,7 +262,7 @@ public final class KanbanLoop {
         return found;
     }
 
-    /** How long the way is from a stage's market to the next stage's inbox, 0 if there is no next one. */
+    /** The way belongs to the stage behind, which no stage knows: only the line ahead is linked. */
     private int wayBehind(Stage stage) {
         for (Stage at = last; at != null; at = at.ahead) {
             if (at.ahead == stage) {
@@ -361,13 +331,12 @@ public final class KanbanLoop {
             this.unitsEntered = full ? cards * size : 0;
         }
 
-        /** All units that the stage holds, those that travel to its inbox among them. */
+        /** What travels to its inbox counts with the stage, so that each unit counts once. */
         private int unitsHeld() {
             int inWork = left > 0 ? size : 0;
             return market.allUnits() + inbox.allUnits() + road.allUnits() + inWork;
         }
 
-        /** Does the stage's share of the second part of a step. */
         private void work(boolean ruleIsFirst) {
             if (stopped) {
                 return;
@@ -409,7 +378,6 @@ public final class KanbanLoop {
             left = time;
         }
 
-        /** Does the inbox's share of the third part of a step. */
         private void convey() {
             if (ahead == null) {
                 return;
@@ -481,7 +449,7 @@ public final class KanbanLoop {
             return count > 0 && carded[0];
         }
 
-        /** Puts a container behind all others, with a card. */
+        // Whatever comes into a market or an inbox comes with a card, a begun container too.
         private void add(int filled) {
             if (count >= 0 && count < PLACES) {
                 units[count] = filled;
@@ -501,7 +469,7 @@ public final class KanbanLoop {
             count--;
         }
 
-        /** Takes units out, of which there must be enough; returns how many cards came off. */
+        /** The caller knows where the cards go that come off, so their number is the answer. */
         private int takeOut(int wanted, boolean ruleIsFirst) {
             int missing = wanted;
             int cardsOff = 0;
@@ -542,7 +510,7 @@ public final class KanbanLoop {
             return sum;
         }
 
-        /** Lets a container set out; each has a conveyance card, so there is always a place. */
+        // Each container that travels has a conveyance card, so there is always a place.
         private void add(int filled, int steps) {
             if (count >= 0 && count < MOST_CONVEYANCE) {
                 units[count] = filled;
@@ -551,7 +519,7 @@ public final class KanbanLoop {
             }
         }
 
-        /** Lets all containers go one step; those with none left come into the inbox. */
+        // A later container may be there first, by a shorter way, so all are looked at, in their order.
         private void bringTo(Store inbox) {
             int stay = 0;
             for (int i = 0; i < count && i < MOST_CONVEYANCE; i++) {
