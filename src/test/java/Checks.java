@@ -2,6 +2,7 @@
 final class Checks {
     private int passed;
     private int failed;
+    private String about = "";
 
     void same(String what, long got, long due) {
         if (got == due) {
@@ -15,8 +16,22 @@ final class Checks {
         if (got.equals(due)) {
             passed++;
         } else {
-            fail(what + " is\n  " + got + "\ndue is\n  " + due);
+            int at = firstDifference(got, due);
+            fail(what + " is .. " + around(got, at) + " .., due is .. " + around(due, at) + " ..");
         }
+    }
+
+    private static int firstDifference(String got, String due) {
+        int at = 0;
+        while (at < got.length() && at < due.length() && got.charAt(at) == due.charAt(at)) {
+            at++;
+        }
+        return at;
+    }
+
+    /** The long tellings differ late, so only the words round the first difference are of use. */
+    private static String around(String text, int at) {
+        return text.substring(Math.max(0, at - 40), Math.min(text.length(), at + 20));
     }
 
     void isTrue(String what, boolean got) {
@@ -44,13 +59,22 @@ final class Checks {
         }
     }
 
+    /** What the checks that follow are about: it is printed ahead of each that fails. */
+    void about(String text) {
+        about = text.isEmpty() ? "" : text + ": ";
+    }
+
     void fail(String what) {
         failed++;
-        System.out.println(what);
+        System.out.println(about + what);
     }
 
     int failures() {
         return failed;
+    }
+
+    int made() {
+        return passed + failed;
     }
 
     void close() {
